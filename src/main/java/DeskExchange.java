@@ -235,20 +235,20 @@ public final class DeskExchange {
 
     public int join(int ticket, int parent)
             throws IndexOutOfBoundsException, IllegalArgumentException, IllegalStateException {
-        Ticket joining = ticketAt(ticket);
-        Ticket joined = ticketAt(parent);
-        if (joining == joined) {
+        Ticket child = ticketAt(ticket);
+        Ticket above = ticketAt(parent);
+        if (child == above) {
             throw new IllegalArgumentException("a ticket is not joined to itself");
         }
-        if (joining.state != OPEN || countJoinedTo(joining) > 0) {
+        if (child.state != OPEN || countJoinedTo(child) > 0) {
             throw new IllegalStateException("the ticket is not open or is a parent");
         }
-        if (joined.state == JOINED || joined.state == SOLVED) {
+        if (above.state == JOINED || above.state == SOLVED) {
             throw new IllegalStateException("the parent is joined or solved");
         }
-        joining.parent = joined;
-        enter(joining, JOINED, time);
-        return countJoinedTo(joined);
+        child.parent = above;
+        enter(child, JOINED, time);
+        return countJoinedTo(above);
     }
 
     public int parentOf(int ticket) throws IndexOutOfBoundsException, NoSuchElementException {
@@ -267,10 +267,10 @@ public final class DeskExchange {
             throw new IllegalStateException("the ticket is not answered");
         }
         if (hasHelped) {
-            page.change(TRUST_BY_HELP);
+            page.changeTrust(TRUST_BY_HELP);
             solve(answered, BY_PAGE, time);
         } else {
-            page.change(TRUST_BY_NO_HELP);
+            page.changeTrust(TRUST_BY_NO_HELP);
             enter(answered, OPEN, time);
         }
         return page.canAnswer();
@@ -671,7 +671,7 @@ public final class DeskExchange {
         worker.ticket = null;
         Page page = pageFor(ticket);
         if (page != null) {
-            page.change(TRUST_BY_WORK);
+            page.changeTrust(TRUST_BY_WORK);
         }
         // the clock has run in this minute, which is not over yet
         return solve(ticket, BY_PERSON, time + 1);
@@ -835,7 +835,7 @@ public final class DeskExchange {
     private static final class Page {
         private int trust = FIRST_TRUST;
 
-        void change(int difference) {
+        void changeTrust(int difference) {
             trust = Math.max(0, Math.min(MOST_TRUST, trust + difference));
         }
 

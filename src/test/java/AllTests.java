@@ -10,6 +10,7 @@ final class AllTests {
         TicketsTest.run();
         PeopleTest.run();
         TimeTest.run();
+        ConsistencyTest.run();
         RandomRunsTest.run();
         if (!Check.report()) {
             System.exit(1);

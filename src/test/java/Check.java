@@ -39,10 +39,12 @@ final class Check {
         }
     }
 
+    /** Whether a throw statement of the class, or of the model, has thrown it. */
     private static boolean isOwn(RuntimeException e) {
         StackTraceElement[] trace = e.getStackTrace();
+        String thrower = trace.length == 0 ? "" : trace[0].getClassName();
         boolean isDivision = "/ by zero".equals(e.getMessage());
-        return trace.length > 0 && !isDivision && !trace[0].getClassName().startsWith("java.");
+        return !isDivision && (thrower.startsWith("DeskExchange") || thrower.equals("Model"));
     }
 
     static boolean report() {

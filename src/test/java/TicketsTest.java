@@ -247,6 +247,12 @@ final class TicketsTest {
             Check.equal("14 the same", x.causeFromLog(i), due[i]);
         }
         Check.throwsJust("14 none", NONE, () -> x.causeFromLog(6));
+        DeskExchange y = Desk.promising(10);
+        y.addCause(1, -1);
+        y.planChange(0, 0, 1, false);
+        Desk.open(y, 0, "else");
+        Check.equal("13 by the first change", y.cause(0), 0);
+        Check.equal("14 by the first change", y.causeFromLog(0), 0);
     }
 
     private static void fromLog() {
