@@ -11,9 +11,21 @@ final class AllTests {
         PeopleTest.run();
         TimeTest.run();
         ConsistencyTest.run();
+        runSentences();
         RandomRunsTest.run();
         if (!Check.report()) {
             System.exit(1);
         }
+    }
+
+    private static void runSentences() throws Exception {
+        Document.read();
+        Sentences.run(TermsSentencesTest.class);
+        Sentences.run(RefusedCallsTest.class);
+        Sentences.run(SetupSentencesTest.class);
+        Sentences.run(TicketSentencesTest.class);
+        Sentences.run(PeopleSentencesTest.class);
+        Sentences.run(TimeSentencesTest.class);
+        Document.checkAllQuoted();
     }
 }

@@ -5,8 +5,15 @@ final class Check {
     private static int passed = 0;
     private static int failed = 0;
 
+    private static String about = "";
+    private static int checksAhead = 0;
+
     interface Call {
         Object answer();
+    }
+
+    interface NumberCall {
+        Object answer(int number);
     }
 
     private Check() {
@@ -17,8 +24,20 @@ final class Check {
             passed++;
         } else {
             failed++;
-            System.out.println(what + " answered " + got + ", due is " + due);
+            System.out.println(about + what + " answered " + got + ", due is " + due);
         }
+    }
+
+    /** What fails from here on is told with the name of the test. */
+    static void begin(String test) {
+        about = test + ": ";
+        checksAhead = passed + failed;
+    }
+
+    /** A test must have checked something. */
+    static void end() {
+        isTrue("the number of checks is greater than 0", passed + failed > checksAhead);
+        about = "";
     }
 
     static void isTrue(String what, boolean holds) {
@@ -28,6 +47,14 @@ final class Check {
     /** The call must throw the exception by a throw statement of the class itself. */
     static void throwsJust(String what, Class<? extends RuntimeException> due, Call call) {
         equal(what, answerOf(call), "throws." + due.getSimpleName());
+    }
+
+    /** Each of the numbers must make the call throw. */
+    static void eachThrows(String what, Class<? extends RuntimeException> due, int[] numbers,
+            NumberCall call) {
+        for (int number : numbers) {
+            throwsJust(what + " " + number, due, () -> call.answer(number));
+        }
     }
 
     /** The call's answer, or throws. and the name of the exception that it throws. */

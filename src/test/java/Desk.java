@@ -54,4 +54,54 @@ final class Desk {
             }
         }
     }
+
+    /** Lets time pass until it is so late. */
+    static void passUntil(DeskExchange x, int time) {
+        while (x.now() < time) {
+            x.pass(Math.min(1000, time - x.now()));
+        }
+    }
+
+    /** Opens a ticket with each text, for the customer 0. */
+    static void openEach(DeskExchange x, String... texts) {
+        for (String text : texts) {
+            open(x, 0, text);
+        }
+    }
+
+    /** The states of the first tickets, in the order of their numbers. */
+    static String states(DeskExchange x, int tickets) {
+        StringBuilder states = new StringBuilder();
+        for (int i = 0; i < tickets; i++) {
+            states.append(x.state(i));
+        }
+        return states.toString();
+    }
+
+    /**
+     * A desk at the time 2 where the page 0 of the cause 0, "fan", has the trust 70, by the tickets
+     * 0 and 1, which the person 0 has solved. The cause takes 1 minute and no part.
+     */
+    static DeskExchange trusting() {
+        DeskExchange x = promising(10);
+        cause(x, 1, -1, "fan");
+        x.addPage(0);
+        x.addPerson(255, 0, 1440);
+        raiseTrust(x, 0, 0, "fan");
+        return x;
+    }
+
+    /**
+     * A desk at the time 2 with one ticket in each state: 2 is open, 3 worked on by the person 0,
+     * 4 answered, 5 hushed by a change until 9, 6 joined to 2, and 0 and 1 are solved.
+     */
+    static DeskExchange inAllStates() {
+        DeskExchange x = trusting();
+        openEach(x, "else", "else", "fan");
+        x.assign(3, 0);
+        x.planChange(0, 2, 9, true);
+        openEach(x, "fan", "else");
+        x.join(6, 2);
+        return x;
+    }
 }
