@@ -1,9 +1,12 @@
 /** Runs all tests of the project; ends with exit code 1 if one fails. */
 final class AllTests {
+    private static final int MOST_MILLISECONDS = 300_000;
+
     private AllTests() {
     }
 
     public static void main(String[] args) throws Exception {
+        failIfEndless();
         FaceTest.run();
         LanguageTest.run();
         SetupTest.run();
@@ -16,6 +19,21 @@ final class AllTests {
         if (!Check.report()) {
             System.exit(1);
         }
+    }
+
+    /** A call that never ends must fail the tests too. */
+    private static void failIfEndless() {
+        Thread watch = new Thread(() -> {
+            try {
+                Thread.sleep(MOST_MILLISECONDS);
+            } catch (InterruptedException e) {
+                return;
+            }
+            System.out.println("the tests have not ended after " + MOST_MILLISECONDS + " ms");
+            Runtime.getRuntime().halt(1);
+        });
+        watch.setDaemon(true);
+        watch.start();
     }
 
     private static void runSentences() throws Exception {
