@@ -92,7 +92,7 @@ public final class DeskExchange {
         if (causes.size() >= MOST_CAUSES) {
             throw new IllegalStateException("no more causes");
         }
-        Stock stock = isKind(part) ? stocks.get(part) : null;
+        Stock stock = part >= 0 && part < stocks.size() ? stocks.get(part) : null;
         causes.add(new Cause(causes.size(), work, stock));
         return causes.size() - 1;
     }

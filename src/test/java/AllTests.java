@@ -9,6 +9,7 @@ final class AllTests {
         failIfEndless();
         FaceTest.run();
         LanguageTest.run();
+        ReadmeTest.run();
         SetupTest.run();
         TicketsTest.run();
         PeopleTest.run();

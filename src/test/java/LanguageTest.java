@@ -46,6 +46,22 @@ final class LanguageTest {
                 "java.util.Iterator", "java.util.NoSuchElementException"));
         Check.equal("other imports", imports, Set.of());
         Check.isTrue("signs 1 to 127 alone", code.chars().allMatch(sign -> sign < 128));
+        sizesAheadOf("(\\w+)\\.get\\(", ".size()", code);
+        sizesAheadOf("(\\w+)\\.charAt\\(", ".length()", code);
+    }
+
+    /** Where an element is taken, the same method must ask how many there are; blank lines part them. */
+    private static void sizesAheadOf(String taking, String size, String code) {
+        int found = 0;
+        for (String method : code.split("\n\\s*\n")) {
+            Matcher matcher = Pattern.compile(taking).matcher(method);
+            while (matcher.find()) {
+                String asked = matcher.group(1) + size;
+                Check.isTrue(asked + " is asked in" + method, method.contains(asked));
+                found++;
+            }
+        }
+        Check.isTrue("elements are taken by " + taking, found > 0);
     }
 
     private static void members(Class<?> each) {
